@@ -646,7 +646,7 @@ public final class BoulderLand {
         }
 
         boolean isHeap(int go, int cell) {
-            return isIced(go, cell) && courseAt(go, cell) < 0;
+            return icy[go] && isCovered(go, cell) && courseAt(go, cell) < 0;
         }
 
         boolean isFlowing(int go, int cell, int direction) {

@@ -117,6 +117,7 @@ final class PromisesTest {
         due("goes stay", x.count(2), 2);
         due("signs stay", x.count(3), 1);
         due("story stays", x.told(2, 1), 0);
+        due("only the flood explains the shell", x.fits(), 3);
         due("height stays", x.cell(5, 0, 44), 44);
         due("land", x.land(3, 2), 6);
         due("no stones", x.count(1), 0);
@@ -130,6 +131,7 @@ final class PromisesTest {
         due("flat", x.cell(5, 0, 0), 0);
         due("rock 0", x.cell(5, 1, 0), 0);
         due("best of nothing", x.best(), 0);
+        due("no row but the empty one", x.fits(), 1);
         due("numbers begin anew", x.flood(1), 0);
         due("numbers begin anew", x.stone(0, 0, 1), 0);
     }
@@ -202,6 +204,7 @@ final class PromisesTest {
         due("sign", x.sign(4, 0, 0, 6), 0);
         due("best", x.best(), 0);
         due("rock", x.cell(4, 1, 1), 0);
+        due("best", x.best(), 0);
         due("dug", x.dug(0, 4), 15);
         due("best follows", x.best(), 6);
     }
@@ -217,8 +220,11 @@ final class PromisesTest {
             due("wrong", x.ice(0, w[0], w[1], w[2]), OUTSIDE);
         }
         due("none told", x.count(2), 0);
+        due("the empty row", x.fits(), 1);
         due("least", x.ice(0, 1, 1, 0), 0);
+        due("two rows", x.fits(), 2);
         due("most", x.ice(15, 199, 20, 20), 1);
+        due("five rows", x.fits(), 5);
         due("like one told", x.ice(15, 199, 20, 20), 2);
         for (int i = 3; i < 6; i++) {
             due("ice", x.ice(i, 10, 1, 1), i);
@@ -237,7 +243,9 @@ final class PromisesTest {
         due("level", x.flood(-5), OUTSIDE);
         due("none told", x.count(2), 0);
         due("ice", x.ice(0, 1, 1, 0), 0);
+        due("two rows", x.fits(), 2);
         due("least", x.flood(1), 1);
+        due("five rows", x.fits(), 5);
         due("most", x.flood(99), 2);
         for (int i = 3; i < 6; i++) {
             due("flood", x.flood(9), i);
@@ -524,7 +532,7 @@ final class PromisesTest {
         due("the cell does not matter", x.sign(4, MIN, 0, 1), 1);
         due("explained", x.explains(0, 1), 1);
         due("last direction", x.sign(0, 15, 3, 99), 2);
-        due("last cross", x.sign(5, 15, 14, 1), 3);
+        due("last cross", x.sign(5, 15, 15, 1), 3);
         for (int i = 4; i < 12; i++) {
             due("sign", x.sign(i % 3 + 1, i, 0, i), i);
         }
@@ -559,6 +567,26 @@ final class PromisesTest {
         due("no sign", x.forget(-1), UNKNOWN);
         due("forget", x.forget(0), 20);
         due("number anew", x.sign(3, 1, 0, 20), 0);
+        // kind, cell, extra and worth move up together: ice from 0 flows 0 to 1, 1 to 2, 2 to 3, 3 to 7
+        BoulderLand y = new BoulderLand();
+        y.ice(0, 50, 1, 0);
+        story(y, 0, 0);
+        y.sign(2, 5, 0, 1);
+        y.sign(0, 3, 1, 2);
+        y.sign(1, 15, 0, 4);
+        y.sign(0, 2, 1, 8);
+        y.sign(0, 2, 0, 16);
+        int[] before = {0, 1, 1, 0, 1};
+        for (int i = 0; i < 5; i++) {
+            due("sign " + i, y.explains(0, i), before[i]);
+        }
+        due("costs", y.costs(0), 9);
+        due("forget", y.forget(0), 1);
+        int[] after = {1, 1, 0, 1, UNKNOWN};
+        for (int i = 0; i < 5; i++) {
+            due("sign " + i, y.explains(0, i), after[i]);
+        }
+        due("costs", y.costs(0), 8);
     }
 
     /** A 3 by 3 land with ice from each of two corners and a flood. */
