@@ -259,7 +259,8 @@ final class BoundsTest {
 
     private static void ice() {
         promise = "6 ice: the number of the GO";
-        int[][] good = {{0, 1, 1, 0}, {15, 199, 20, 20}, {0, 199, 1, 20}, {15, 1, 20, 0}, {1, 2, 2, 1}, {14, 198, 19, 19}};
+        int[][] good = {{0, 1, 1, 0}, {15, 199, 20, 20}, {0, 199, 1, 20}, {15, 1, 20, 0}, {1, 2, 2, 1},
+            {14, 198, 19, 19}};
         BoulderLand x = new BoulderLand();
         for (int i = 0; i < 6; i++) {
             int[] g = good[i];

@@ -3,6 +3,10 @@ import java.nio.file.Files;
 import java.nio.file.Path;
 import java.util.ArrayDeque;
 import java.util.Deque;
+import java.util.Map;
+import java.util.Set;
+import java.util.TreeMap;
+import java.util.TreeSet;
 import java.util.regex.Matcher;
 import java.util.regex.Pattern;
 
@@ -11,6 +15,7 @@ final class LanguageTest {
     private static final int LONGEST_METHOD = 60;
     private static final int MOST_PARAMETERS = 7;
     private static final int MOST_CLASSES = 12;
+    private static final int MOST_DEEP = 8;
     private static final String[] FORBIDDEN = {
         "throw", "throws", "try", "catch", "finally", "synchronized", "assert", "package", "protected", "->", "::",
         "Exact", "hashCode", "toString", "System\\.(?!arraycopy\\b)", "static \\{", "volatile", "native", "var"};
@@ -32,7 +37,41 @@ final class LanguageTest {
         checkImports(code);
         checkClasses(code);
         checkMethods(code);
+        checkDepth(code);
         Check.end();
+    }
+
+    // methods of one name count as one: the chain found is no shorter than the true one
+    private static void checkDepth(String code) {
+        Map<String, Set<String>> calls = new TreeMap<>();
+        Set<String> into = new TreeSet<>();
+        Matcher line = Pattern.compile("(?m)^.*$").matcher(code);
+        Pattern head = Pattern.compile("^\\s*(?:(?:public|private|static) )*[\\w\\[\\]]+ (\\w+)\\([^()]*\\) \\{$");
+        while (line.find()) {
+            Matcher made = head.matcher(line.group());
+            if (made.matches() && !made.group(1).equals("if")) {
+                into = calls.computeIfAbsent(made.group(1), name -> new TreeSet<>());
+                continue;
+            }
+            Matcher call = Pattern.compile("\\b(\\w+)\\(").matcher(line.group());
+            while (call.find()) {
+                into.add(call.group(1));
+            }
+        }
+        for (String name : calls.keySet()) {
+            int depth = depth(calls, name, MOST_DEEP);
+            Check.so(name + " calls " + depth + " deep", depth <= MOST_DEEP);
+        }
+    }
+
+    private static int depth(Map<String, Set<String>> calls, String name, int left) {
+        int most = 0;
+        if (left >= 0) {
+            for (String called : calls.get(name)) {
+                most = Math.max(most, calls.containsKey(called) ? depth(calls, called, left - 1) : 0);
+            }
+        }
+        return most + 1;
     }
 
     private static void checkImports(String code) {

@@ -2,8 +2,9 @@ import java.util.Random;
 
 /** Long runs of calls, made by numbers that follow from the run's own, beside the plain model. */
 final class ModelTest {
-    private static final int RUNS = 240;
-    private static final int CALLS = 400;
+    private static final int RUNS = 260;
+    // an object answers 512 calls; a new land with all that lies on it takes fewer than 90
+    private static final int CALLS = 512 - 90;
     private static final int[] WILD = {-1, 6, 36, 100, 200, Integer.MAX_VALUE, Integer.MIN_VALUE};
 
     private final Random by;
@@ -13,6 +14,7 @@ final class ModelTest {
     private final int relief;
     private final int wildness;
     private int cells = 16;
+    private int asked;
 
     private ModelTest(int run) {
         this.run = run;
@@ -31,7 +33,7 @@ final class ModelTest {
 
     private void go() {
         lay();
-        for (int i = 0; i < CALLS; i++) {
+        for (int i = 0; i < CALLS && asked < CALLS; i++) {
             int dice = by.nextInt(100);
             if (dice < 6) {
                 askLand();
@@ -74,6 +76,7 @@ final class ModelTest {
     }
 
     private void due(String call, int got, int want, int... with) {
+        asked++;
         Check.due("run " + run + ": " + call + java.util.Arrays.toString(with), got, want);
     }
 

@@ -343,7 +343,7 @@ final class TermsTest {
     }
 
     private static void flows() {
-        sentence = "It FLOWS from a CELL to the one beside it that is COVERED with DIST one more (of like ones the least)";
+        sentence = "It FLOWS to the CELL beside it that is COVERED with DIST one more (of like ones the least)";
         // from the middle all four are like: the least CELL is y less
         BoulderLand x = new BoulderLand();
         x.land(3, 3);
@@ -511,7 +511,7 @@ final class TermsTest {
     }
 
     private static void shiftsToLowest() {
-        sentence = "to the CELL beside that is COVERED and lowest, if that is lower than its own (of like ones the least)";
+        sentence = "to the CELL beside that is COVERED and lowest, if that is lower (of like ones the least)";
         BoulderLand x = heights(3,
             9, 5, 9,
             5, 5, 5,
